@@ -3,14 +3,17 @@ final class Check {
     private static final int MOST_TOLD = 20;
     private int done = 0;
     private int wrong = 0;
+    private String sentence = "";
+
+    /** The document's sentence that the answers from here on are held against. */
+    void says(String words) {
+        sentence = words;
+    }
 
     void due(String call, long got, long want) {
         done++;
         if (got != want) {
-            wrong++;
-            if (wrong <= MOST_TOLD) {
-                System.out.println(call + " answered " + got + ", due is " + want);
-            }
+            tell(call + " answered " + got + ", due is " + want);
         }
     }
 
@@ -21,8 +24,7 @@ final class Check {
     void due(String call, String got, String want) {
         done++;
         if (!got.equals(want)) {
-            wrong++;
-            System.out.println(call + " answered " + got + ", due is " + want);
+            tell(call + " answered " + got + ", due is " + want);
         }
     }
 
@@ -31,6 +33,13 @@ final class Check {
         due(when + ": count(1)", x.count(1), startBytes);
         due(when + ": count(2)", x.count(2), machine);
         due(when + ": count(3)", x.count(3), used);
+    }
+
+    private void tell(String what) {
+        wrong++;
+        if (wrong <= MOST_TOLD) {
+            System.out.println(sentence.isEmpty() ? what : "\"" + sentence + "\": " + what);
+        }
     }
 
     void end() {

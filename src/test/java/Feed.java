@@ -20,6 +20,17 @@ final class Feed {
         }
     }
 
+    static BitStreams holding(int keySize, int startSize) {
+        BitStreams x = new BitStreams();
+        for (int i = 0; i < keySize; i++) {
+            x.key(17 * i + 3, 1);
+        }
+        for (int i = 0; i < startSize; i++) {
+            x.start(29 * i + 5, 1);
+        }
+        return x;
+    }
+
     static BitStreams begun(int machine, String key, String start) {
         BitStreams x = new BitStreams();
         key(x, key);
