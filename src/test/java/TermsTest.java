@@ -129,8 +129,9 @@ public final class TermsTest {
             check.due("bits(" + first + ")", given.bits(first), due >>> 64 - first);
             check.due("behind " + first + " given", given.bits(9), due << first >>> 55);
             BitStreams lost = Feed.begun(3, "0102030405", "");
+            lost.bits(3);
             lost.skip(first);
-            check.due("behind " + first + " lost", lost.bits(9), due << first >>> 55);
+            check.due("behind 3 given and " + first + " lost", lost.bits(9), due << first + 3 >>> 55);
             BitStreams mixed = Feed.begun(3, "0102030405", "");
             mixed.mix(-1L, first);
             check.due("behind " + first + " mixed", mixed.mix(0L, 9), due << first >>> 55);
