@@ -2,12 +2,29 @@ import java.lang.reflect.Constructor;
 import java.lang.reflect.Field;
 import java.lang.reflect.Method;
 import java.lang.reflect.Modifier;
+import java.util.Set;
 import java.util.TreeSet;
 
-/** The public face is the document's and nothing more (rules 1 and 5 of LANGUAGE.md). */
+/** The public face is the document's and nothing more (what reflection shows of rules 1 and 5 of LANGUAGE.md). */
 public final class FaceTest {
+    private static final Set<String> NAMES = Set.of("key", "start", "begin", "bits", "skip", "mix", "count");
+    private static final Set<Class<?>> CONSTANTS = Set.of(int.class, long.class, boolean.class, char.class,
+            String.class, int[].class, long[].class, char[].class, byte[].class);
+
+    private final Check check = new Check();
+
     public static void main(String[] args) {
-        Check check = new Check();
+        FaceTest test = new FaceTest();
+        test.face();
+        test.fields(BitStreams.class);
+        test.privateMethods(BitStreams.class);
+        for (Class<?> inside : BitStreams.class.getDeclaredClasses()) {
+            test.classInside(inside);
+        }
+        test.check.end();
+    }
+
+    private void face() {
         check.due("modifiers", Modifier.toString(BitStreams.class.getModifiers()), "public final");
         TreeSet<String> face = new TreeSet<>();
         for (Method method : BitStreams.class.getDeclaredMethods()) {
@@ -28,19 +45,31 @@ public final class FaceTest {
         due.add("public long BitStreams.mix(long,int)");
         due.add("public int BitStreams.count(int)");
         check.due("the face", face.toString(), due.toString());
-        fields(check, BitStreams.class);
-        for (Class<?> inside : BitStreams.class.getDeclaredClasses()) {
-            check.due(inside + " is static", Modifier.isStatic(inside.getModifiers()), true);
-            fields(check, inside);
-        }
-        check.end();
     }
 
-    private static void fields(Check check, Class<?> of) {
+    private void classInside(Class<?> inside) {
+        int modifiers = inside.getModifiers();
+        check.due(inside + " is static", Modifier.isStatic(modifiers), true);
+        boolean open = Modifier.isPublic(modifiers) || Modifier.isProtected(modifiers);
+        check.due(inside + " is public or protected", open, false);
+        fields(inside);
+        privateMethods(inside);
+    }
+
+    private void privateMethods(Class<?> of) {
+        for (Method method : of.getDeclaredMethods()) {
+            boolean alike = Modifier.isPrivate(method.getModifiers()) && NAMES.contains(method.getName());
+            check.due(method + " is private with a name of the face", alike, false);
+        }
+    }
+
+    private void fields(Class<?> of) {
         for (Field field : of.getDeclaredFields()) {
             check.due(field + " is private", Modifier.isPrivate(field.getModifiers()), true);
-            boolean loose = Modifier.isStatic(field.getModifiers()) && !Modifier.isFinal(field.getModifiers());
-            check.due(field + " is static and not final", loose, false);
+            if (Modifier.isStatic(field.getModifiers())) {
+                check.due(field + " is final", Modifier.isFinal(field.getModifiers()), true);
+                check.due(field + " is a constant", CONSTANTS.contains(field.getType()), true);
+            }
         }
     }
 }
